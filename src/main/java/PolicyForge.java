@@ -259,8 +259,10 @@ public final class PolicyForge {
         /** What lies behind a row that is none is none. */
         void join(Row other) {
             made = made && other.made;
-            for (int i = 0; i < other.count; i++) {
-                add(other.items[i]);
+            weight += other.weight;
+            for (int i = 0; i < other.count && count < items.length; i++) {
+                items[count] = other.items[i];
+                count++;
             }
         }
 
@@ -387,26 +389,20 @@ public final class PolicyForge {
             return kind == HASH ? Row.weightOf(SECRET) : 0;
         }
 
+        /** Of all choices of as many as are needed; a bit of a choice tells a form's part in it. */
         private int greatestOfChoices() {
             int greatest = 0;
             for (int choice = 0; choice < 1 << count; choice++) {
-                if (Integer.bitCount(choice) == need) {
-                    greatest = Math.max(greatest, weightOfChoice(choice));
+                int sum = 0;
+                for (int i = 0; i < count; i++) {
+                    boolean chosen = ((choice >> i) & 1) == 1;
+                    sum += chosen ? taken[i].weight : taken[i].refusal.weight;
+                }
+                if (Integer.bitCount(choice) == need && sum > greatest) {
+                    greatest = sum;
                 }
             }
             return greatest;
-        }
-
-        private int weightOfChoice(int choice) {
-            int sum = 0;
-            for (int i = 0; i < count; i++) {
-                sum += isChosen(choice, i) ? taken[i].weight : taken[i].refusal.weight;
-            }
-            return sum;
-        }
-
-        private static boolean isChosen(int choice, int i) {
-            return ((choice >> i) & 1) == 1;
         }
 
         /** Tells what dissatisfies it: this hangs on the way alone, not on keys or times. */
@@ -483,7 +479,8 @@ public final class PolicyForge {
         private void tryChoice(Row trial, int choice) {
             trial.start();
             for (int i = 0; i < count; i++) {
-                trial.join(isChosen(choice, i) ? taken[i].lightest : taken[i].refusal);
+                boolean chosen = ((choice >> i) & 1) == 1;
+                trial.join(chosen ? taken[i].lightest : taken[i].refusal);
             }
             lightest.becomeIfLesser(trial);
         }
@@ -531,12 +528,14 @@ public final class PolicyForge {
             formD.rule = NO_WAY;
             formV.rule = NO_WAY;
             offerWaysOfB(trial);
+            offerWaysOfD(formB, trial);
             offerWaysOfD(formD, trial);
             formD.offer(trial.start(BY_ELSE_ZERO, 0, 1).with(formB));
             formD.makeRefusal();
             offerWaysOfV(trial);
         }
 
+        /** The ways of B that D does not have. */
         private void offerWaysOfB(Form trial) {
             if (isLeaf(kind) && kind != KEY) {
                 formB.offer(trial.start(BY_LEAF, WORD * kind + number, 0));
@@ -550,10 +549,9 @@ public final class PolicyForge {
             } else if (kind == ADD && number == count) {
                 offerRowOfAll(trial);
             }
-            offerWaysOfD(formB, trial);
         }
 
-        /** The ways of D but for the last one, which B does not have. */
+        /** The ways of D that B has too: all but the last one. */
         private void offerWaysOfD(Form form, Form trial) {
             if (kind == KEY) {
                 form.offer(trial.start(BY_LEAF, WORD * kind + number, 0));
@@ -951,7 +949,9 @@ public final class PolicyForge {
                     push(1);
                     break;
                 case VERIFY:
-                    failed = takeNumber() == 0 || failed;
+                    if (takeNumber() == 0) {
+                        failed = true;
+                    }
                     break;
                 case AND:
                 case OR:
@@ -1067,7 +1067,9 @@ public final class PolicyForge {
         /** Sums stay far below the first signature, so what is 10 or more is no number. */
         private int takeNumber() {
             int value = take();
-            failed = failed || value >= SIGNATURE;
+            if (value >= SIGNATURE) {
+                failed = true;
+            }
             return value;
         }
 
