@@ -5,7 +5,7 @@ import java.util.NoSuchElementException;
  * goes through a script with any witness.
  *
  * <p>All rows are made once, in the constructor, and used again by every call: no call makes an
- * object.
+ * object but an exception that it throws.
  */
 public final class PolicyForge {
 
