@@ -727,7 +727,8 @@ public final class PolicyForge {
             int need = kind == AND ? 2 : 1;
             int most = kind == ADD ? JOINED_MOST : JOINED_LEAST;
             if (kind == ADD) {
-                need = 1 + oneOf('1', '4');
+                // More than there can be is told behind them, like all that are too many.
+                need = 1 + oneOf('1', '9');
                 if (need < 1 || !expect(',')) {
                     return false;
                 }

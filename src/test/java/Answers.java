@@ -1,4 +1,8 @@
+import java.util.ArrayList;
+import java.util.Arrays;
+import java.util.List;
 import java.util.NoSuchElementException;
+import java.util.function.IntUnaryOperator;
 
 /** Compares answers with those that are due, and ends a test. */
 final class Answers {
@@ -12,19 +16,30 @@ final class Answers {
     static final long NOTHING_THERE = -1004;
     static final long OTHER_EXCEPTION = -1005;
 
+    private String sentence = "";
     private int calls = 0;
     private int wrong = 0;
 
-    void due(String what, long want, long got) {
+    /** What follows is asked by this sentence of the document. */
+    void sentence(String words) {
+        sentence = "\"" + words + "\": ";
+    }
+
+    /** For what has a row or a text of its own to be compared by. */
+    void dueSame(String what, Object want, Object got) {
         calls++;
-        if (got != want) {
+        if (!got.equals(want)) {
             wrong++;
-            System.out.println(what + " answered " + got + ", due is " + want);
+            System.out.println(sentence + what + " answered " + got + ", due is " + want);
         }
     }
 
+    void due(String what, long want, long got) {
+        dueSame(what, want, got);
+    }
+
     void due(String what, boolean want, boolean got) {
-        due(what, want ? 1 : 0, got ? 1 : 0);
+        dueSame(what, want, got);
     }
 
     /** An exception that is due is told by one of the constants above. */
@@ -32,7 +47,7 @@ final class Answers {
         due(what, want, answerOf(call));
     }
 
-    private static long answerOf(Call call) {
+    static long answerOf(Call call) {
         try {
             return call.answer();
         } catch (NoSuchElementException e) {
@@ -76,6 +91,41 @@ final class Answers {
     static long read(PolicyForge forge, String text) {
         type(forge, text);
         return answerOf(forge::read);
+    }
+
+    static List<Integer> list(int... numbers) {
+        return Arrays.stream(numbers).boxed().toList();
+    }
+
+    static List<Integer> wordsOf(PolicyForge forge) {
+        return rowOf(forge::word);
+    }
+
+    static List<Integer> itemsOf(PolicyForge forge) {
+        return rowOf(forge::item);
+    }
+
+    private static List<Integer> rowOf(IntUnaryOperator at) {
+        List<Integer> row = new ArrayList<>();
+        try {
+            for (int i = 0; i < 1000; i++) {
+                row.add(at.applyAsInt(i));
+            }
+        } catch (IndexOutOfBoundsException e) {
+            return row;
+        }
+        throw new IllegalStateException("a row without end");
+    }
+
+    /** All that can be seen of an object without changing it. */
+    static String stateOf(PolicyForge forge) {
+        List<Long> sizes = new ArrayList<>();
+        for (int what = 0; what < 8; what++) {
+            int asked = what;
+            sizes.add(answerOf(() -> forge.size(asked)));
+        }
+        return "words " + wordsOf(forge) + ", sizes " + sizes + ", items " + itemsOf(forge)
+            + ", fault " + forge.fault() + ", done " + forge.done();
     }
 
     static PolicyForge forgeOf(String text) {

@@ -216,13 +216,25 @@ final class Oracle {
         return ways;
     }
 
+    /** The word of an operation, its argument behind a point: END, KEY.A, SAME.2. */
+    static int word(String text) {
+        int point = text.indexOf('.');
+        if (point < 0) {
+            return 1000 * OPERATIONS.get(text);
+        }
+        String argument = text.substring(point + 1);
+        boolean key = Character.isLetter(argument.charAt(0));
+        return 1000 * OPERATIONS.get(text.substring(0, point))
+            + (key ? argument.charAt(0) - 'A' : Integer.parseInt(argument));
+    }
+
     private static List<Integer> words(Object... pieces) {
         List<Integer> words = new ArrayList<>();
         for (Object piece : pieces) {
             if (piece instanceof Way way) {
                 words.addAll(way.words);
             } else {
-                words.add(1000 * OPERATIONS.get(piece));
+                words.add(word((String) piece));
             }
         }
         return words;
@@ -342,9 +354,9 @@ final class Oracle {
         + "|thr\\([12],P,P\\)|thr\\([123],P,P,P\\)|thr\\([1234],P,P,P,P\\)");
     private static final Pattern LEAF = Pattern.compile("(key|hash|after|older)\\(");
     private static final Pattern BEGINNING = Pattern.compile(
-        "((and|or)\\((P,)?|thr\\([1-4],(P,){0,3})*"
+        "((and|or)\\((P,)?|thr\\([1-9],(P,){0,3})*"
         + "(|P|k|ke|key|key\\([A-H]?|h|ha|has|hash|hash\\([0-9]?|a|af|aft|afte|after"
-        + "|o|or|ol|old|olde|older|(after|older)\\((?!000)[0-9]{0,3}|an|and|th?|thr|thr\\([1-4]?)");
+        + "|o|or|ol|old|olde|older|(after|older)\\((?!000)[0-9]{0,3}|an|and|th?|thr|thr\\([1-9]?)");
 
     /** The fault's place by the words of the document: each beginning is looked at. */
     static int fault(String text) {
@@ -374,9 +386,11 @@ final class Oracle {
     private static String reduced(String text) {
         // What was typed may hold the letter that stands for a part here.
         String reduced = text.replace('P', '%');
-        for (int i = 0; i < 100; i++) {
+        String before;
+        do {
+            before = reduced;
             reduced = PART.matcher(reduced).replaceAll("P");
-        }
+        } while (!reduced.equals(before));
         return reduced;
     }
 }

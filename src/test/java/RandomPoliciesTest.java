@@ -89,35 +89,22 @@ public final class RandomPoliciesTest {
         String what = policy.text() + " " + facts;
         ANSWERS.due(what + " holds", policy.holds(facts),
             forge.holds(facts.keys(), facts.secrets(), facts.height(), facts.age()));
-        List<Integer> before = witness(forge);
+        List<Integer> before = Answers.itemsOf(forge);
         List<Integer> lightest = Oracle.lightest(way, facts);
         ANSWERS.due(what + " has one", policy.holds(facts), lightest != null);
         ANSWERS.due(what + " satisfy", lightest == null ? -1 : Oracle.weight(lightest),
             forge.satisfy(facts.keys(), facts.secrets(), facts.height(), facts.age()));
         List<Integer> due = lightest == null ? before : lightest;
-        List<Integer> got = witness(forge);
-        ANSWERS.due(what + " witness " + got + ", due " + due, true, got.equals(due));
+        ANSWERS.dueSame(what + " witness", due, Answers.itemsOf(forge));
         if (lightest != null) {
             ANSWERS.due(what + " accepted", -1, forge.check(facts.height(), facts.age()));
         }
     }
 
-    private static List<Integer> witness(PolicyForge forge) {
-        List<Integer> items = new ArrayList<>();
-        for (int i = 0; i < 64; i++) {
-            try {
-                items.add(forge.item(i));
-            } catch (IndexOutOfBoundsException e) {
-                return items;
-            }
-        }
-        return items;
-    }
-
     /** With the witness as it is, and with one that was changed somewhere. */
     private static void compareChecks(PolicyForge forge, List<Integer> words) {
         compareCheck(forge, words);
-        List<Integer> items = witness(forge);
+        List<Integer> items = Answers.itemsOf(forge);
         if (!items.isEmpty() && RANDOM.nextInt(3) > 0) {
             items.set(RANDOM.nextInt(items.size()), someItem());
         } else if (!items.isEmpty() && RANDOM.nextBoolean()) {
@@ -140,12 +127,12 @@ public final class RandomPoliciesTest {
     private static void compareCheck(PolicyForge forge, List<Integer> words) {
         int height = RANDOM.nextInt(12);
         int age = RANDOM.nextInt(12);
-        List<Integer> items = witness(forge);
+        List<Integer> items = Answers.itemsOf(forge);
         int[] due = Oracle.check(words, items, height, age);
         String what = words + " with " + items + " at " + height + ", " + age;
         ANSWERS.due(what + " check", due[0], forge.check(height, age));
         ANSWERS.due(what + " done", due[1], forge.done());
-        ANSWERS.due(what + " witness stays", true, witness(forge).equals(items));
+        ANSWERS.dueSame(what + " witness stays", items, Answers.itemsOf(forge));
     }
 
     private static String changed(String text) {

@@ -88,7 +88,7 @@ public final class ReadingTest {
         place(GOOD, "thr(2,key(A),key(B))");
         place(GOOD, "thr(4,key(A),key(B),key(C),key(D))");
         place(4, "thr(0,key(A),key(B))");
-        place(4, "thr(5,key(A),key(B))");
+        place(19, "thr(5,key(A),key(B))");
         place(4, "thr(key(A),key(B))");
         place(5, "thr(12,key(A),key(B))");
         place(6, "thr(1,)");
