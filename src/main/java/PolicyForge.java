@@ -727,7 +727,7 @@ public final class PolicyForge {
             int need = kind == AND ? 2 : 1;
             int most = kind == ADD ? JOINED_MOST : JOINED_LEAST;
             if (kind == ADD) {
-                // More than there can be is told behind them, like all that are too many.
+                // A k above how many there are is told behind them, one from 5 to 9 too.
                 need = 1 + oneOf('1', '9');
                 if (need < 1 || !expect(',')) {
                     return false;

@@ -26,7 +26,8 @@ public final class LightestBoundsTest {
     }
 
     private static void weights() {
-        ANSWERS.sentence("0 EMPTY and 1 ONE (weight 1), 10 + K a signature (9), 20 + d a secret (5)");
+        ANSWERS.sentence("0 EMPTY and 1 ONE (weight 1), 10 + K a signature (9), "
+            + "20 + d a secret (5)");
         for (int key = 0; key < 8; key++) {
             lightest("key(" + (char) ('A' + key) + ")", 1 << key, 0, 9, 10 + key);
         }
@@ -87,7 +88,8 @@ public final class LightestBoundsTest {
     }
 
     private static void leastWeight() {
-        ANSWERS.sentence("The LIGHTEST witness, for sets and times, is the one of the least weight");
+        ANSWERS.sentence("The LIGHTEST witness, for sets and times, is the one of the least "
+            + "weight");
         // What is less in the first item is heavier.
         lightest("or(key(A),key(B))", 3, 0, 9, 10);
         lightest("or(or(hash(0),hash(1)),hash(2))", 0, 7, 6, 0, 22);

@@ -7,6 +7,8 @@ public final class PolicyBoundsTest {
     // Ten leaves and a hundred characters: both limits, and neither is passed.
     private static final String FULLEST = "thr(2,thr(3,hash(0),hash(1),hash(2),hash(3)),"
         + "thr(3,hash(4),hash(5),hash(6),hash(7)),hash(8),hash(9))";
+    private static final String MOST_PARTS = "thr(4,or(or(key(A),key(B)),key(C)),"
+        + "or(key(D),or(key(E),key(F))),or(or(key(G),key(H)),key(A)),key(B))";
     private static final String TEN = "thr(2,thr(1,key(A),key(B),key(C),key(D)),key(E),"
         + "thr(1,key(F),key(G),key(H),key(A)),key(B))";
 
@@ -48,6 +50,8 @@ public final class PolicyBoundsTest {
         ANSWERS.sentence("at most 100 characters");
         ANSWERS.due("length", 100, FULLEST.length());
         place(GOOD, FULLEST);
+        ANSWERS.due("length", 100, MOST_PARTS.length());
+        ANSWERS.due("as many parts as fit", 17, Answers.forgeOf(MOST_PARTS).size(7));
         PolicyForge x = new PolicyForge();
         ANSWERS.due("hundred", true, Answers.type(x, FULLEST));
         ANSWERS.due("one more", false, x.text(0, 0, 0, 0, ')'));
@@ -225,7 +229,7 @@ public final class PolicyBoundsTest {
     private static void lengthAtTheEnd() {
         ANSWERS.sentence("(its length at its end)");
         String[] texts = {"key(A)", "hash(1)", "after(100)", "older(001)", "and(key(A),key(B))",
-            "or(key(A),key(B))", "thr(4,key(A),key(B),key(C),key(D))", TEN, FULLEST};
+            "or(key(A),key(B))", "thr(4,key(A),key(B),key(C),key(D))", TEN, FULLEST, MOST_PARTS};
         for (String text : texts) {
             for (int length = 0; length < text.length(); length++) {
                 place(length, text.substring(0, length));
