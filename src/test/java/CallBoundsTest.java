@@ -31,6 +31,7 @@ public final class CallBoundsTest {
         witnessStays();
         doneOfTheLatest();
         anySetsAndTimes();
+        lastCalls();
         ANSWERS.end();
     }
 
@@ -397,6 +398,24 @@ public final class CallBoundsTest {
             x.satisfy(keys, secrets, height, age));
         if (held >= 2) {
             ANSWERS.due("check " + what, -1, x.check(height, age));
+        }
+    }
+
+    /** The whole of one object's time: 64 rounds of eight calls, the last one as good as any. */
+    private static void lastCalls() {
+        ANSWERS.sentence("An object is used for at most 512 calls after it has been made");
+        PolicyForge x = new PolicyForge();
+        for (int round = 0; round < 64; round++) {
+            int key = round % 8;
+            int name = 'A' + key << 24 | ')' << 16;
+            ANSWERS.due("text", true, x.text('k' << 24 | 'e' << 16 | 'y' << 8 | '(', name, 0, 0, 0));
+            ANSWERS.due("read", 1, x.read());
+            ANSWERS.due("word", 1000 + key, x.word(0));
+            ANSWERS.due("satisfy", 9, x.satisfy(1 << key, 0, 0, 0));
+            ANSWERS.due("check", -1, x.check(0, 0));
+            ANSWERS.due("put", 2, x.put(0));
+            ANSWERS.due("check of two items", 1, x.check(0, 0));
+            ANSWERS.due("done", 1, x.done());
         }
     }
 }
